@@ -979,7 +979,8 @@ public final class SlabPantry {
                     draft.data.addNumber((old.number() + command.number(Command.AMOUNT)) % MODULUS);
                     break;
                 default:
-                    draft.data.addNumber(Math.max(old.number() - command.number(Command.AMOUNT), 0));
+                    draft.data.addNumber(
+                        Math.max(old.number() - command.number(Command.AMOUNT), 0));
                     break;
             }
         }
