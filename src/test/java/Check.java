@@ -8,16 +8,36 @@ final class Check {
     private final String test;
     private int wrong = 0;
     private int checked = 0;
+    private String sentence = "";
+    private int checkedBefore = 0;
 
     Check(String test) {
         this.test = test;
     }
 
+    /** What is checked from here on is about this sentence of the document. */
+    void sentence(String words) {
+        endSentence();
+        sentence = words;
+        checkedBefore = checked;
+    }
+
+    private void endSentence() {
+        if (!sentence.isEmpty() && checked == checkedBefore) {
+            report("nothing is checked");
+        }
+    }
+
+    private void report(String what) {
+        wrong++;
+        String about = sentence.isEmpty() ? "" : "\"" + sentence + "\": ";
+        System.out.println(test + ": " + about + what);
+    }
+
     void same(String call, long got, long due) {
         checked++;
         if (got != due) {
-            wrong++;
-            System.out.println(test + ": " + call + " answered " + got + ", due is " + due);
+            report(call + " answered " + got + ", due is " + due);
         }
     }
 
@@ -28,8 +48,7 @@ final class Check {
     void same(String call, String got, String due) {
         checked++;
         if (!got.equals(due)) {
-            wrong++;
-            System.out.println(test + ": " + call + " answered [" + got + "], due is [" + due + "]");
+            report(call + " answered [" + got + "], due is [" + due + "]");
         }
     }
 
@@ -51,6 +70,7 @@ final class Check {
     }
 
     void finish() {
+        endSentence();
         System.out.println(test + ": " + checked + " checked, " + wrong + " wrong");
         if (wrong > 0 || checked == 0) {
             System.exit(1);

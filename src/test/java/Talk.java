@@ -70,6 +70,51 @@ final class Talk {
         check.same("send() for key " + key, pantry.send(), "STORED".length());
     }
 
+    /** The commands in this order; each one is refused with this reply and changes nothing. */
+    void refused(String reply, String... lines) {
+        String before = state();
+        for (String line : lines) {
+            due(line, reply);
+            check.same("state behind [" + line + "]", state(), before);
+        }
+    }
+
+    /** All that figure, slab and order tell. */
+    String state() {
+        StringBuilder state = new StringBuilder();
+        for (int k = 0; k < 9; k++) {
+            state.append(pantry.figure(k)).append(' ');
+        }
+        for (int c = 0; c < 4; c++) {
+            int items = pantry.slab(c, 1);
+            state.append("| ").append(pantry.slab(c, 0)).append(' ').append(pantry.slab(c, 2)).append(':');
+            for (int k = 0; k < items; k++) {
+                state.append(' ').append(pantry.order(c, k));
+            }
+            called(3 + items);
+        }
+        called(9);
+        return state.toString();
+    }
+
+    /** Writes these bytes; behind it the line has so many characters. */
+    void wrote(long characters, boolean due, int lineLength) {
+        called(1);
+        check.same("write(0x" + Long.toHexString(characters) + ")", pantry.write(characters), due);
+        figure(8, lineLength);
+    }
+
+    void wiped(int due) {
+        called(1);
+        check.same("wipe()", pantry.wipe(), due);
+    }
+
+    /** Sends what was written: only the length of the reply is looked at. */
+    void sent(int due) {
+        called(1);
+        check.same("send()", pantry.send(), due);
+    }
+
     void tick(int n) {
         called(1);
         pantry.tick(n);
