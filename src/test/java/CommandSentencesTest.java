@@ -413,10 +413,10 @@ public final class CommandSentencesTest {
         talk.due("set n 0 0 1\n0", "STORED");
         talk.write("incr n 0");
         talk.sent(1);
-        CHECK.same("reply(0)", talk.pantry.reply(0), '0');
+        talk.character(0, '0');
         talk.write("incr n 999999999");
         talk.sent(9);
-        CHECK.same("reply(8)", talk.pantry.reply(8), '9');
+        talk.character(8, '9');
         CHECK.outOfBounds("reply(9)", () -> talk.pantry.reply(9));
     }
 

@@ -87,11 +87,17 @@ public final class LineSentencesTest {
         for (String line : same) {
             talk.due(line, due);
         }
+        // no blank is a word of its own
+        talk.figure(7, 0);
         talk.due("geta", "ERROR");
         talk.due("  set   b  2   0    1   \n ", "STORED");
         talk.due("get b", "VALUE b 2 1\n \nEND");
+        talk.due("set b 3 0 1 \n ", "STORED");
+        talk.due(" set b 4 0 1\n ", "STORED");
+        talk.due("touch b 0 ", "TOUCHED");
         talk.due(" delete  b   noreply  ", "");
         talk.due("get b", "END");
+        talk.due("flush_all ", "OK");
     }
 
     private static void dataBehindTheFirstBreak() {
@@ -251,7 +257,7 @@ public final class LineSentencesTest {
         }
         talk.write("gets abcdefg0 abcdefg1 abcdefg2");
         talk.sent(longest);
-        CHECK.same("the last of it", talk.pantry.reply(longest - 1), 'D');
+        talk.character(longest - 1, 'D');
         int behind = longest;
         CHECK.outOfBounds("behind it", () -> talk.pantry.reply(behind));
     }

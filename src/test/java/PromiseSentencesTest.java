@@ -53,13 +53,13 @@ public final class PromiseSentencesTest {
         noCharacters(talk.pantry, 0, -1, 1, LEAST, MOST);
         talk.write("flush_all");
         talk.sent(2);
-        CHECK.same("reply(0)", talk.pantry.reply(0), 'O');
-        CHECK.same("reply(1)", talk.pantry.reply(1), 'K');
+        talk.character(0, 'O');
+        talk.character(1, 'K');
         noCharacters(talk.pantry, 2, 3, -1, -2, LEAST, MOST);
         // a longer one, and behind it an empty and a shorter one
         talk.write("hello you");
         talk.sent(5);
-        CHECK.same("reply(4)", talk.pantry.reply(4), 'R');
+        talk.character(4, 'R');
         noCharacters(talk.pantry, 5, -1);
         talk.write("flush_all noreply");
         talk.sent(0);
@@ -186,7 +186,11 @@ public final class PromiseSentencesTest {
         for (int i = 0; i < 48; i++) {
             full.stored("k" + i, 1);
         }
-        CHECK.same("order(0, 47)", full.pantry.order(0, 47), 1);
+        int[] tokens = new int[48];
+        for (int k = 0; k < 48; k++) {
+            tokens[k] = 48 - k;
+        }
+        full.order(0, tokens);
         noItems(full, 0, 48);
     }
 

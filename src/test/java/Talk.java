@@ -59,6 +59,17 @@ final class Talk {
         return reply + "(no end)";
     }
 
+    /** Character i of the reply. */
+    void character(int i, char due) {
+        called(1);
+        answered("reply(" + i + ")", () -> pantry.reply(i), due);
+    }
+
+    /** A call that throws where it should answer is a wrong answer, and the test goes on. */
+    private void answered(String call, Check.Call made, long due) {
+        check.same(call, Check.outcome(made), Long.toString(due));
+    }
+
     void due(String line, String reply) {
         check.same("say [" + line + "]", say(line), reply);
     }
@@ -122,15 +133,15 @@ final class Talk {
 
     void figure(int k, long due) {
         called(1);
-        check.same("figure(" + k + ")", pantry.figure(k), due);
+        answered("figure(" + k + ")", () -> pantry.figure(k), due);
     }
 
     /** Pages, items and free chunks of class c. */
     void slab(int c, int pages, int items, int free) {
         called(3);
-        check.same("slab(" + c + ", 0)", pantry.slab(c, 0), pages);
-        check.same("slab(" + c + ", 1)", pantry.slab(c, 1), items);
-        check.same("slab(" + c + ", 2)", pantry.slab(c, 2), free);
+        answered("slab(" + c + ", 0)", () -> pantry.slab(c, 0), pages);
+        answered("slab(" + c + ", 1)", () -> pantry.slab(c, 1), items);
+        answered("slab(" + c + ", 2)", () -> pantry.slab(c, 2), free);
     }
 
     /** All tokens in the order of class c, and the end behind them. */
@@ -138,8 +149,7 @@ final class Talk {
         called(tokens.length + 1);
         for (int k = 0; k < tokens.length; k++) {
             int at = k;
-            check.same("order(" + c + ", " + k + ")",
-                Check.outcome(() -> pantry.order(c, at)), Integer.toString(tokens[k]));
+            answered("order(" + c + ", " + k + ")", () -> pantry.order(c, at), tokens[k]);
         }
         check.outOfBounds("order(" + c + ", " + tokens.length + ")",
             () -> pantry.order(c, tokens.length));
