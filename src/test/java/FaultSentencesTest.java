@@ -100,7 +100,8 @@ public final class FaultSentencesTest {
             String one = VERBS[i] + WORDS[i] + "\n";
             String ten = VERBS[i] + WORDS[i].replace("0 0 1", "0 0 10") + "\n";
             refused(CHUNK, none + "x", none + "\n", one, one + "xx", one + "x\n", one + "\n\n", ten,
-                ten + "x".repeat(9), ten + "x".repeat(11), ten.replace("10", "999999999") + "x", one.replace(" a", " b"));
+                ten + "x".repeat(9), ten + "x".repeat(11), ten.replace("10", "999999999") + "x",
+                one.replace(" a", " b"));
         }
         // of a whole line
         refused(CHUNK, "set a 0 0 125\n" + "x".repeat(126), "set a 0 0 127\n" + "x".repeat(126));

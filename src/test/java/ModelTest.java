@@ -6,6 +6,8 @@ public final class ModelTest {
     private static final int LAST_LOOK = 100;
     private static final String[] STORING = {"set", "set", "set", "add", "replace", "append", "prepend"};
     private static final String[] OTHER = {"get", "gets", "delete", "touch", "incr", "decr"};
+    /** What is put into a line to bend it: what words, numbers and data are parted by or made of. */
+    private static final String[] BENDS = {" ", "\n", "-", "0", "7", "x", " noreply", ""};
     private static final String[] ODD = {"", " ", "hello", "set", "get", "flush_all x", "noreply",
         "incr a", "decr a -1", "touch a --1", "delete a b", "get a b c d", "set a 0 0 1", "get a\n",
         "set a 0 0 2\nx", "cas a 0 0 1\nx", "set abcdefghi 0 0 1\nx", "\n", "flush_all\n",
@@ -55,7 +57,7 @@ public final class ModelTest {
                 model.tick(n);
                 calls++;
             } else {
-                speak(line());
+                speak(chance(10) ? bent(line()) : line());
             }
             look();
         }
@@ -118,6 +120,13 @@ public final class ModelTest {
             line += " " + pick(chance(50) ? 20 : 1000000000);
         }
         return line + quiet();
+    }
+
+    /** The line with something put into it at one place, or one character there changed for it. */
+    private String bent(String line) {
+        int start = pick(line.length() + 1);
+        int end = Math.min(line.length(), start + pick(2));
+        return line.substring(0, start) + BENDS[pick(BENDS.length)] + line.substring(end);
     }
 
     private void speak(String line) {
